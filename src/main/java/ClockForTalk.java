@@ -1259,6 +1259,9 @@ public final class ClockForTalk {
         }
 
         private boolean add(int step) {
+            if (length >= SIGNS_ROOM) {
+                return false;
+            }
             put(steps, length, step);
             length++;
             return true;

@@ -88,6 +88,7 @@ public final class DuskTest {
         c.read(0, 37);
         Due.is("33: for nothing, said or not", c.spoke(0), 2);
         Due.row("33: for nothing", c, 0, 0);
+        byWords();
         // Sums above 63 and 64 seconds, and the most there can be.
         ClockForTalk m = Due.town("0:0;0:0", Due.times("ab99-9=1;", 7) + "ab99-9=1");
         m.sheet(2, 2, 9999, 0);
@@ -110,6 +111,36 @@ public final class DuskTest {
         Due.is("34: a", m.look(), 0);
         // With j said: 999 j less 64 times 0 .. 3 j.
         Due.row("34: 1 + 4 + 7 + .. + 25", m, 117);
+    }
+
+    private static void byWords() {
+        // l seconds loud, nine steps apart; shouted is dearer than any clock: sums beside 64 and its multiples.
+        ClockForTalk c = Due.town("0:500;9:10", "ab63-9=1;ab1-9=1;ab64-9=1;ab65-9=1;ab2-9=1");
+        Due.rule(c, "l+(w=3)*900");
+        int[] sums = {0, 1, 2, 3, 4, 62, 63, 64, 65, 66, 67, 68, 126, 127, 128, 129, 130, 131, 132, 192, 193, 194, 195, 196};
+        int[] sets = {1, 1, 1, 1, 0, 0, 1, 2, 3, 3, 2, 1, 0, 1, 2, 3, 3, 2, 1, 1, 1, 1, 1, 0};
+        for (int i = 0; i < sums.length; i++) {
+            c.read(0, 500 - sums[i]);
+            Due.is("33: " + sums[i] + " seconds", c.spoke(0), sets[i]);
+        }
+        c.read(0, 501);
+        Due.is("33: a second more than it has", c.spoke(0), 0);
+        c.read(0, 500 + 63);
+        Due.is("33: 63 more than it has", c.spoke(0), 0);
+        c.read(0, 500 + 64);
+        Due.is("33: 64 more than it has", c.spoke(0), 0);
+        c.forget();
+        Due.is("34: a", c.look(), 0);
+        Due.row("34: 0 1 2 3, 63 to 68, 127 to 132, 192 to 195", c, 20);
+        // 128 less than a sum of 128, and what costs 64 or 128 alone.
+        Due.rule(c, "128+(w=3)*800");
+        c.read(0, 372);
+        Due.is("33: 128 each", c.spoke(0), 5);
+        Due.rule(c, "64+(w=3)*800");
+        c.read(0, 436);
+        Due.is("33: 64 each", c.spoke(0), 5);
+        c.read(0, 500);
+        Due.is("33: nothing was said", c.spoke(0), 1);
     }
 
     private static void look() {

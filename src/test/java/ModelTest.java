@@ -11,6 +11,8 @@ public final class ModelTest {
     private static ClockForTalk clock;
     private static Model model;
     private static StringBuilder story;
+    /** Half of the runs are drawn so that much can be done: close neighbours, cheap words, few faults. */
+    private static boolean rich;
 
     private interface Ask { long of(); }
 
@@ -32,7 +34,7 @@ public final class ModelTest {
     private static int upTo(int n) { return draw.nextInt(n); }
 
     private static int near(int least, int most) {
-        int r = upTo(20);
+        int r = upTo(rich ? 80 : 20);
         if (r == 0) return least - 1;
         if (r == 1) return most + 1;
         if (r == 2) return draw.nextInt();
@@ -41,8 +43,8 @@ public final class ModelTest {
         return least + upTo(most - least + 1);
     }
 
-    private static int aPerson() { return upTo(15) == 0 ? near(0, 6) : upTo(Math.max(1, model.steps.size())); }
-    private static int aThing() { return upTo(15) == 0 ? near(0, 8) : upTo(Math.max(1, model.things.size())); }
+    private static int aPerson() { return upTo(rich ? 60 : 15) == 0 ? near(0, 6) : upTo(Math.max(1, model.steps.size())); }
+    private static int aThing() { return upTo(rich ? 60 : 15) == 0 ? near(0, 8) : upTo(Math.max(1, model.things.size())); }
 
     // ---- texts
 
@@ -60,11 +62,27 @@ public final class ModelTest {
 
     private static String people() {
         int close = upTo(3);
+        if (rich) {
+            int wide = new int[] {1, 3, 5, 12, 40}[upTo(5)];
+            StringBuilder s = new StringBuilder();
+            for (int i = 3 + upTo(4); i > 0; i--) s.append(s.length() > 0 ? ";" : "").append(upTo(wide)).append(':').append(upTo(3) == 0 ? upTo(9) : upTo(120));
+            return s.toString();
+        }
         return lines(4, () -> (close == 0 ? number(2) : "" + (close == 1 ? upTo(10) : upTo(30))) + ":" + (upTo(3) == 0 ? number(3) : number(2)));
     }
 
     private static String things() {
         int all = Math.max(2, model.steps.size());
+        if (rich) {
+            StringBuilder s = new StringBuilder();
+            int one = upTo(all), few = upTo(3);
+            for (int i = 4 + upTo(4); i > 0; i--) {
+                int a = few == 0 ? one : upTo(all), b = (a + 1 + upTo(all - 1)) % all;
+                s.append(s.length() > 0 ? ";" : "").append((char) ('a' + a)).append((char) ('a' + b)).append(1 + upTo(upTo(2) == 0 ? 9 : 60))
+                    .append('-').append(20 + upTo(80)).append('=').append(upTo(9));
+            }
+            return s.toString();
+        }
         return lines(5, () -> {
             int a = upTo(all), b = (a + 1 + upTo(all - 1)) % all;
             return "" + (char) ('a' + a) + (char) ('a' + b) + (upTo(25) == 0 ? number(2) : 1 + upTo(upTo(2) == 0 ? 20 : 99))
@@ -72,7 +90,11 @@ public final class ModelTest {
         });
     }
 
+    private static final String[] RULES = {"l", "l+w", "(l+1)/2+w", "l/(w+1)", "h*2+w", "c/9", "s+l/9", "w*w", "3", "l*(w=1)+9*(w=0)+7*(w>1)",
+        "(9-w)*(c>5)", "l/9+h-s", "63*(w=0)+64*(w=1)+65*(w>1)", "l*7", "d/9+1", "5-w", "999-c", "h", "l-l/3*3"};
+
     private static String expression(int depth) {
+        if (rich && depth == 0 && upTo(3) > 0) return RULES[upTo(RULES.length)];
         String s = sum(depth);
         return upTo(5) == 0 ? s + "<>=".charAt(upTo(3)) + sum(depth) : s;
     }
@@ -112,7 +134,7 @@ public final class ModelTest {
     }
 
     private static String spoiled(String s) {
-        if (upTo(4) > 0) return s;
+        if (upTo(rich ? 15 : 4) > 0) return s;
         String signs = "0123456789:;-=<>()*/+abcdefghlswx\u00ff\u0000";
         StringBuilder t = new StringBuilder(s);
         int at = upTo(t.length() + 1);
@@ -146,7 +168,9 @@ public final class ModelTest {
 
     private static void call() {
         int a, b, c, d;
-        switch (upTo(43)) {
+        int which = upTo(43);
+        if (rich && which < 2 && upTo(6) > 0) which = 2;
+        switch (which) {
             case 0: tell(people()); story.append(" people"); same("people", () -> clock.people(), () -> model.people()); break;
             case 1: tell(things()); story.append(" things"); same("things", () -> clock.things(), () -> model.things()); break;
             case 2: tell(upTo(6) == 0 ? "" : expression(0)); story.append(" rule"); same("rule", () -> clock.rule(), () -> model.rule()); break;
@@ -178,7 +202,7 @@ public final class ModelTest {
             case 32: tell(grammar(2 + upTo(6))); story.append(" grammar"); same("grammar", () -> clock.grammar(), () -> model.grammar()); break;
             case 33: tell(letters(upTo(9) == 0 ? 16 : 8, 2 + upTo(6))); story.append(" shorter"); same("shorter", () -> clock.shorter(), () -> model.shorter()); break;
             case 34: tell(letters(upTo(9) == 0 ? 16 : 8, 2 + upTo(6))); story.append(" becomes"); same("becomes", () -> clock.becomes(), () -> model.becomes()); break;
-            case 35: case 36: a = aPerson(); b = upTo(4) == 0 || !model.isPerson(a) ? near(0, 9999) : Math.max(0, model.now.clocks.get(a) - upTo(50)); story.append(" read " + a + " " + b); same("read", () -> clock.read(a, b), () -> model.read(a, b)); break;
+            case 35: case 36: a = aPerson(); b = upTo(4) == 0 || !model.isPerson(a) ? near(0, 9999) : dusk(a); story.append(" read " + a + " " + b); same("read", () -> clock.read(a, b), () -> model.read(a, b)); break;
             case 37: a = aPerson(); story.append(" spoke " + a); same("spoke", () -> clock.spoke(a), () -> model.spoke(a)); break;
             case 38: story.append(" look"); same("look", () -> clock.look(), () -> model.look()); break;
             case 39: a = aPerson(); story.append(" run " + a); same("run", () -> clock.run(a), () -> model.run(a)); break;
@@ -188,6 +212,17 @@ public final class ModelTest {
                 if (upTo(4) == 0) { story.append(" forget"); same("forget", () -> clock.forget(), () -> model.forget()); break; }
                 a = near(0, 1); story.append(" again " + a); same("again", () -> clock.again(a) ? 1 : 0, () -> model.again(a) ? 1 : 0);
         }
+    }
+
+    /** Mostly a reading that some day explains. */
+    private static int dusk(int person) {
+        int clock = model.now.clocks.get(person);
+        java.util.List<Integer> seen = new java.util.ArrayList<>();
+        for (java.util.Set<Integer> sums : model.days(model.openOf(person)).values()) {
+            for (int s : sums) if (s <= clock) seen.add(clock - s);
+        }
+        java.util.Collections.sort(seen);
+        return upTo(5) == 0 ? Math.max(0, clock - upTo(50)) : seen.get(upTo(seen.size()));
     }
 
     private static void compareAll() {
@@ -214,8 +249,9 @@ public final class ModelTest {
             clock = new ClockForTalk();
             model = new Model();
             story = new StringBuilder("run " + seed + ":");
+            rich = seed % 2 == 0;
             for (int i = 0; i < CALLS; i++) {
-                if (i < 2 && upTo(4) > 0) {
+                if (i < 2 && (rich || upTo(4) > 0)) {
                     tell(i == 0 ? people() : things());
                     story.append(i == 0 ? " people" : " things");
                     if (i == 0) same("people", () -> clock.people(), () -> model.people());

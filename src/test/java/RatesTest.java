@@ -143,6 +143,9 @@ public final class RatesTest {
         ClockForTalk h = Due.town("0:9;0:9", "ab9-99=5");
         Due.is("37: thing 0", h.years(0, 1), 1);
         Due.row("37: sung, its worth", h, 3, 5);
+        Due.rule(h, "0");
+        Due.is("37: for nothing", h.years(0, 1), 1);
+        Due.row("37: for nothing, its worth", h, 0, 5);
         // Seed 1: 1103527590 >>> 16 = 16838: thing 8, which is none.
         Due.is("37: none such", h.years(1, 1), 0);
         Due.row("37: none such", h, 0, 0);

@@ -194,6 +194,14 @@ public final class TalkTest {
         Due.is("16: LOSS stays", c.person(0, 6), 59);
         Due.is("16: a loan that has not ended stays", c.loan(1, 4), 0);
         Due.is("16: BY is asked by DAY by 100", c.count(5), 3);
+        ClockForTalk b = Due.town("0:100;3:10", "ab9-98=5;ba3-99=1;ba3-0=1");
+        b.days(99);
+        Due.is("13: DAY 99 is behind BY 98", b.say(0, 2), -3);
+        Due.is("40: BY 99 is not too late", b.count(5), 2);
+        b.days(1);
+        Due.is("40: DAY 100 is asked as 0", b.count(5), 7);
+        b.days(1);
+        Due.is("40: DAY 101 is asked as 1", b.count(5), 3);
         c.days(3);
         Due.is("16: too late then", c.count(5), 1);
     }
@@ -221,6 +229,10 @@ public final class TalkTest {
         Due.is("17: no such thing, s", Due.talk(c, "d0;s40;d9"), 1);
         Due.row("17: no such thing, s", c, 1, 0);
         Due.is("17: d0 was done, so it can be undone", c.count(9), 2);
+        Due.is("17: thing 9, b", Due.talk(c, "b9"), 0);
+        Due.row("17: thing 9, b", c, 1, 0);
+        Due.is("17: thing 9, s", Due.talk(c, "s93;d1"), 0);
+        Due.row("17: thing 9, s", c, 1, 0);
         Due.is("17: nobody to give to", Due.talk(c, "gaf1"), 0);
         Due.row("17: nobody to give to", c, 1, 0);
         Due.is("17: none done, none to undo", c.count(9), 2);
@@ -236,9 +248,11 @@ public final class TalkTest {
         ClockForTalk c = Due.town("5:40;6:10;20:100", "ab10-9=5;ac20-5=8;ba9-9=4;cb30-50=9");
         c.pool();
         String[] texts = {"x", "s", "s0", "s04", "sa0", "b", "bx", "b00", "g", "ga", "gab", "gah1", "gg1", "gabx", "gab1234", "d", "dx", "d123",
-            "b0;", "b0;;", ";", "b0,b1", "b0;x", "S00", "s000"};
+            "b0;", "b0;;", ";", "b0,b1", "b0;x", "S00", "s000",
+            "s/0", "s:0", "b/", "b:", "s0/", "g`b1", "ga`1", "gagb", "d/", "gab/", "gab:"};
         int[] due = {-1, -2, -3, -3, -2, -2, -2, -3, -2, -3, -4, -3, -2, -4, -7, -2, -2, -4,
-            -4, -4, -1, -3, -4, -1, -4};
+            -4, -4, -1, -3, -4, -1, -4,
+            -2, -2, -2, -2, -3, -2, -3, -3, -2, -4, -4};
         for (int i = 0; i < texts.length; i++) Due.is("17: " + texts[i], Due.talk(c, texts[i]), due[i]);
         Due.is("17: nothing was done", c.count(4), 0);
         Due.is("17: the text is empty", c.count(11), 0);

@@ -58,6 +58,21 @@ public final class TownTest {
         Due.is("3: end(0) of none", c.end(0), true);
         Due.is("3: end(1) of none", c.end(1), false);
         Due.is("2: signs above 127 can't stand", Due.people(c, "\u00b5:5"), -1);
+        // Signs that were cut off are gone, though the next text would go on with them.
+        ClockForTalk d = Due.town("1:1;1:1", "");
+        Due.tell(d, "ab10-9=5").end(1);
+        Due.is("3: cut behind the first letter", d.things(), -2);
+        Due.tell(d, "ab10-9=5").end(2);
+        Due.is("3: cut behind the second letter", d.things(), -3);
+        Due.tell(d, "ab10-9=5").end(7);
+        Due.is("3: cut behind the =", d.things(), -8);
+        Due.tell(d, "5:40").end(2);
+        Due.is("3: cut behind the :", d.people(), -3);
+        Due.tell(d, "5:40").end(3);
+        Due.is("3: cut behind a digit", d.people(), 1);
+        Due.is("3: that digit alone counts", d.person(2, 2), 4);
+        Due.tell(d, "l+ww").end(1);
+        Due.is("3: a cut rule", d.rule(), 0);
     }
 
     private static void people() {
@@ -128,9 +143,11 @@ public final class TownTest {
     private static void thingsWrong() {
         ClockForTalk c = Due.town("0:10;5:20;99:30", "");
         String[] texts = {"x", "d", "a", "aa1-1=1", "ad1-1=1", "ab", "ab-", "ab0-1=1", "ab00-1=1", "ab0", "ab05-1=1;", "ab5",
-            "ab555-5=5", "ab5-", "ab5-5", "ab5-555=5", "ab5-5=", "ab5-5=555", "ab5-5=5;", "ab5-5=5;ab5-5=5;cc", "A", "ab5:5=5", "ab5-5-5"};
+            "ab555-5=5", "ab5-", "ab5-5", "ab5-555=5", "ab5-5=", "ab5-5=555", "ab5-5=5;", "ab5-5=5;ab5-5=5;cc", "A", "ab5:5=5", "ab5-5-5",
+            "10-9=5", "a10-9=5", "`b5-5=5", "a`5-5=5", "ab/-5=5", "ab5-:=5", "ab5-5=5;10-9=5"};
         int[] due = {-1, -1, -2, -2, -2, -3, -3, -3, -4, -3, -10, -4,
-            -5, -5, -6, -7, -7, -9, -9, -18, -1, -4, -6};
+            -5, -5, -6, -7, -7, -9, -9, -18, -1, -4, -6,
+            -1, -2, -1, -2, -3, -5, -9};
         for (int i = 0; i < texts.length; i++) Due.is("5: " + texts[i], Due.things(c, texts[i]), due[i]);
         Due.is("5: nothing came", c.count(1), 0);
         ClockForTalk one = Due.town("0:10", "");
@@ -144,9 +161,9 @@ public final class TownTest {
         Due.is("6: l", Due.rule(c, "l"), 0);
         Due.is("6: cost by it", c.cost(0, 0), 20);
         String[] texts = {"x", "l+", "(l", "l)", "()", "1234", "l l", "l<w=s", "l<w+1>2", "*l", "+l", "-", "--", "l--", "ll", "5l", "(1)(2)",
-            "l=", "(((((l)))))", "L", "l*/w", "1<2<3", "l,"};
+            "l=", "(((((l)))))", "L", "l*/w", "1<2<3", "l,", "l*", "l/", "l*(", "l*x", "(l*)", "l<", "l>(w", "l<(w>s=d)", "l+(w"};
         int[] due = {-1, -3, -3, -2, -2, -4, -2, -4, -6, -1, -1, -2, -3, -4, -2, -2, -4,
-            -3, -5, -1, -3, -4, -2};
+            -3, -5, -1, -3, -4, -2, -3, -3, -4, -3, -4, -3, -5, -7, -5};
         for (int i = 0; i < texts.length; i++) Due.is("6: " + texts[i], Due.rule(c, texts[i]), due[i]);
         Due.is("6: a refused one changes nothing", c.cost(0, 0), 20);
         Due.is("6: the text is empty then", c.count(11), 0);
@@ -169,10 +186,10 @@ public final class TownTest {
         c.days(7);
         String[] rules = {"7", "007", "1+2*3", "(1+2)*3", "10-3-2", "100/7/2", "7/0", "7/0+5", "3-10", "-3+5", "--3", "---3+9", "2*-3+9", "2--3",
             "-7/2+9", "(0-7)/2+9", "1<2", "2<1", "2>1", "2=2", "1+1=2", "(1<2)<3", "1<(2<3)", "5*(2=2)+1", "999+1", "l", "w", "s", "c", "d", "h",
-            "l*l*l*l*l*l*l*l", "-999*999*999", "l*w+s", "999*999*999*999", "(2-5)*(0-3)", "8/3*3", "(3)", "-(2-9)", "1-(2<3)"};
+            "l*l*l*l*l*l*l*l", "-999*999*999", "l*w+s", "999*999*999*999", "(2-5)*(0-3)", "8/3*3", "(3)", "-(2-9)", "1-(2<3)", "5+(2<1)", "5+(1>2)", "5+(1=2)", "5+(2>1)", "(1=1)+(1<2)+5"};
         int[] due = {7, 7, 7, 9, 5, 7, 0, 5, 0, 2, 3, 6, 3, 5,
             6, 6, 1, 0, 1, 1, 1, 1, 0, 6, 999, 20, 2, 5, 300, 7, 2,
-            0, 0, 45, 0, 9, 6, 3, 7, 0};
+            0, 0, 45, 0, 9, 6, 3, 7, 0, 5, 5, 5, 6, 7};
         for (int i = 0; i < rules.length; i++) {
             Due.is("6: " + rules[i], Due.rule(c, rules[i]), 0);
             int want = due[i];
@@ -184,6 +201,13 @@ public final class TownTest {
         }
         Due.rule(c, "h");
         Due.is("6: h shouted", c.cost(0, 3), 3);
+        Due.is("6: h sung is nobody but c, who lives one step off", Due.rule(c, "h*10+(w=1)"), 0);
+        c.move(1, 13);
+        Due.is("6: h sung", c.cost(0, 1), 21);
+        c.move(2, 14);
+        Due.is("6: h sung, c is too far", c.cost(0, 1), 11);
+        c.move(2, 11);
+        c.move(1, 15);
         Due.rule(c, "d");
         c.days(99);
         Due.is("6: d is DAY by 100", c.cost(0, 2), 6);
@@ -191,6 +215,11 @@ public final class TownTest {
         int[] usual = {10, 7, 20, 40};
         c.move(1, 10);
         for (int way = 0; way < 4; way++) Due.is("6: by none, way " + way, c.cost(0, way), usual[way]);
+        ClockForTalk o = Due.town("0:99;0:99", "ab9-99=1;ab1-99=1;ab99-99=1;ab10-99=1;ab11-99=1");
+        int[][] odd = {{5, 3, 9, 18}, {1, 1, 1, 2}, {50, 33, 99, 198}, {5, 4, 10, 20}, {6, 4, 11, 22}};
+        for (int i = 0; i < 5; i++) {
+            for (int way = 0; way < 4; way++) Due.is("6: by none, thing " + i + ", way " + way, o.cost(i, way), odd[i][way]);
+        }
     }
 
     private static int cut(int n) {
@@ -214,6 +243,9 @@ public final class TownTest {
         Due.is("7: LOSS", c.person(2, 6), 5);
         c.days(80);
         Due.is("7: SPENT since New Year", c.person(0, 3), 0);
+        c.lend(1, 0, 4, 400);
+        Due.is("7: the first one owes", c.person(0, 4), 4);
+        Due.is("7: what the first one owes is owed to b", c.person(1, 5), 4);
         Due.throwsNoSuch("7: person(3, 0)", () -> c.person(3, 0));
         Due.throwsNoSuch("7: person(-1, 0)", () -> c.person(-1, 0));
         Due.throwsNoSuch("7: person(0, 7)", () -> c.person(0, 7));
@@ -233,6 +265,9 @@ public final class TownTest {
         Due.is("8: SAID", c.thing(0, 5), 1);
         Due.rule(c, "5");
         Due.is("8: of equal ones the first", c.thing(0, 7), 0);
+        Due.rule(c, "999");
+        Due.is("8: of the dearest ones the first", c.thing(0, 7), 0);
+        Due.rule(c, "5");
         Due.is("8: of equal ones the first that is heard", c.thing(2, 7), 2);
         Due.rule(c, "9-w");
         Due.is("8: the least is shouted", c.thing(0, 7), 3);
@@ -250,6 +285,9 @@ public final class TownTest {
         for (int i = 0; i < steps.length; i++) {
             w.move(1, steps[i]);
             Due.is("8: the first way heard " + steps[i] + " apart", w.thing(0, 7), first[i]);
+            for (int way = 0; way < 4; way++) {
+                Due.is("12: way " + way + ", " + steps[i] + " apart", w.cost(0, way), way < first[i] ? -2 : way);
+            }
         }
     }
 
@@ -261,7 +299,9 @@ public final class TownTest {
         for (int i = 0; i < 2; i++) {
             for (int j = 0; j < 5; j++) Due.is("9: loan(" + i + ", " + j + ")", c.loan(i, j), due[i][j]);
         }
-        c.days(30);
+        c.days(29);
+        Due.is("9: not yet a month", c.loan(0, 2), 33);
+        c.days(1);
         Due.is("9: a tenth more, cut", c.loan(0, 2), 36);
         Due.is("9: not ended", c.loan(0, 4), 0);
         Due.is("9: 5 has no tenth", c.loan(1, 2), 5);

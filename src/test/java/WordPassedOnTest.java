@@ -90,6 +90,8 @@ public final class WordPassedOnTest {
         Due.is("25: n 100", c.criers(0, 1, 100), -1);
         Due.row("25: the row stays with NONE", c, 1);
         Due.is("25: n 99 for none", c.criers(0, 0, 99), 0);
+        Due.is("25: n 1", c.criers(0, 2, 1), 1);
+        Due.is("24: n 1", c.relay(0, 1, 1), 1);
     }
 
     private static void criersRule() {
@@ -100,12 +102,18 @@ public final class WordPassedOnTest {
         Due.row("25: the least bits", c, 3);
         Due.rule(c, "s+(w=3)*50");
         Due.is("25: s is 0", c.criers(1, 8, 9), 1);
+        Due.rule(c, "50-s*9");
+        Due.is("25: s is not below 0", c.criers(1, 8, 9), 1);
         Due.rule(c, "h*20+1");
         Due.is("25: h counts those who hear", c.criers(1, 4, 9), 1);
         Due.rule(c, "51-(w=2)");
         Due.is("25: loud alone can be paid", c.criers(1, 5, 9), 1);
         Due.row("25: b", c, 2);
         Due.is("25: d lives too far for it", c.criers(1, 8, 9), -2);
+        Due.rule(c, "w*60");
+        Due.is("25: whispered alone can be paid", c.criers(1, 5, 9), 1);
+        Due.row("25: b whispers", c, 2);
+        Due.is("25: nobody but those at one place hear it", c.criers(1, 15, 9), -2);
         Due.rule(c, "l");
         Due.is("25: l seconds", c.criers(1, 8, 50), 1);
         Due.is("25: one more", c.criers(1, 8, 51), -2);

@@ -73,6 +73,18 @@ public final class WordingsTest {
         Due.grammar(c, "ab>g;bc>a");
         Due.is("29: gc or aa", Due.shorter(c, "abc"), 2);
         Due.row("29: aa", c, 0, 0);
+        Due.grammar(c, "gb>a;bc>a");
+        Due.is("29: ga or ac", Due.shorter(c, "gbc"), 2);
+        Due.row("29: ac", c, 0, 2);
+        Due.grammar(c, "bb>a;bc>a");
+        Due.is("29: ba or ac", Due.shorter(c, "bbc"), 2);
+        Due.row("29: ac of it", c, 0, 2);
+        Due.grammar(c, "ab>a;bc>g");
+        Due.is("29: ag or ac", Due.shorter(c, "abc"), 2);
+        Due.row("29: ac again", c, 0, 2);
+        Due.grammar(c, "ab>a;bc>a");
+        Due.is("29: aa or ac", Due.shorter(c, "abc"), 2);
+        Due.row("29: aa of it", c, 0, 0);
         Due.grammar(c, "ab>g;gc>g;bc>a");
         Due.is("29: fewer letters are ahead of less ones", Due.shorter(c, "abc"), 1);
         Due.row("29: g", c, 6);
