@@ -51,7 +51,6 @@ public final class ClockForTalk {
     private final Costs costs;
     private final Costs otherCosts;
     private final WordOfMouth mouths;
-    private final Debates debates = new Debates();
     private final Wordings wordings = new Wordings();
     private final Dusk dusk;
     private final int[] acts = new int[ACTS_ROOM * ACT_PARTS];
@@ -362,21 +361,19 @@ public final class ClockForTalk {
         if (!within(first, 0, MOST_LEFT) || !within(second, 0, MOST_LEFT) || !within(k, 1, MOST_AT_ONCE)) {
             return NONE;
         }
-        int fewest = debates.fewestToWin(first, second, k);
-        told.tell(fewest);
-        return fewest > 0 ? 1 : 0;
+        // Who has no less left behind its own turn than the other one can go on answering with just as many seconds
+        // as that one spoke; so the first can have the last word just if it has more, and begins with one second.
+        int last = first > second ? 1 : 0;
+        told.tell(last);
+        return last;
     }
 
     public int enough(int second, int k) {
         if (!within(second, 0, MOST_LEFT) || !within(k, 1, MOST_AT_ONCE)) {
             return NONE;
         }
-        for (int first = 0; first <= MOST_LEFT; first++) {
-            if (debates.fewestToWin(first, second, k) > 0) {
-                return first;
-            }
-        }
-        return -2;
+        // One second more than the other one has is enough, and no less is: see debate().
+        return second < MOST_LEFT ? second + 1 : -2;
     }
 
     // ---- wordings
@@ -1633,56 +1630,6 @@ public final class ClockForTalk {
         }
     }
 
-    /** Two by turns: of each pair of seconds left the most with which who is to speak wins. */
-    private static final class Debates {
-        private static final int SIDE = MOST_LEFT + 1;
-
-        final int[] most = new int[MOST_AT_ONCE * SIDE * SIDE];
-        int filled;
-
-        int fewestToWin(int first, int second, int k) {
-            if (!holds(filled, k)) {
-                fill(k);
-                filled |= 1 << k;
-            }
-            int limit = Math.min(first, k);
-            for (int t = 1; t <= limit; t++) {
-                if (wins(first, second, t, k)) {
-                    return t;
-                }
-            }
-            return 0;
-        }
-
-        private static int cell(int mine, int other, int k) {
-            return ((k - 1) * SIDE + mine) * SIDE + other;
-        }
-
-        // Who can win with t seconds as the least it must speak is told by the most that wins:
-        // behind a turn of t the other wins just if its own most is t or more.
-        private boolean wins(int mine, int other, int t, int k) {
-            return at(most, cell(other, mine - t, k)) < t;
-        }
-
-        // By rising sums, for each turn makes the sum less.
-        private void fill(int k) {
-            for (int sum = 0; sum <= 2 * MOST_LEFT; sum++) {
-                for (int mine = Math.max(0, sum - MOST_LEFT); mine <= Math.min(sum, MOST_LEFT); mine++) {
-                    put(most, cell(mine, sum - mine, k), mostToWin(mine, sum - mine, k));
-                }
-            }
-        }
-
-        private int mostToWin(int mine, int other, int k) {
-            for (int t = Math.min(mine, k); t > 0; t--) {
-                if (wins(mine, other, t, k)) {
-                    return t;
-                }
-            }
-            return 0;
-        }
-    }
-
     /** THE GRAMMAR, and what a wording may become by it. */
     private static final class Wordings {
         private static final int PARTS = 3;
@@ -1814,7 +1761,7 @@ public final class ClockForTalk {
         final Ledger ledger;
         final Costs costs;
         final int[] readings = new int[PEOPLE_ROOM];
-        final long[] sums = new long[SETS_OF_THINGS * WORDS];
+        final long[] sums = new long[(THINGS_ROOM + 1) * WORDS];
         int readBits;
         int explained;
         int leastSet;
@@ -1842,11 +1789,8 @@ public final class ClockForTalk {
                 return;
             }
             for (int set = 0; set < SETS_OF_THINGS; set++) {
-                if ((set & ~open) == 0) {
-                    fillSums(set, words);
-                    if (hasSum(set, spent)) {
-                        countSet(set);
-                    }
+                if ((set & ~open) == 0 && canCost(set, spent, words)) {
+                    countSet(set);
                 }
             }
         }
@@ -1866,14 +1810,17 @@ public final class ClockForTalk {
             return (wordAt(sums, slot * WORDS + sum / 64) >>> sum % 64 & 1L) != 0;
         }
 
-        // The sums of a set are those of the set without its first THING, each more by what that costs.
-        private void fillSums(int set, int words) {
-            clearSums(set, words);
-            if (set == 0) {
+        // The sums of a set are those of the set without its first THING, each more by what that costs. A slot for each
+        // number of THINGS is enough: between that set and this one come only such as hold all of that and more.
+        private boolean canCost(int set, int sum, int words) {
+            int slot = Integer.bitCount(set);
+            clearSums(slot, words);
+            if (slot == 0) {
                 putWord(sums, 0, 1L);
-                return;
+            } else {
+                addSpeech(slot - 1, slot, Integer.numberOfTrailingZeros(set), words);
             }
-            addSpeech(set & set - 1, set, Integer.numberOfTrailingZeros(set), words);
+            return hasSum(slot, sum);
         }
 
         private void clearSums(int slot, int words) {
