@@ -8,6 +8,7 @@ public final class DebatesTest {
     }
 
     private static void byHand() {
+        Due.of("Promise 26", "1 if the first can have the last word (the other is silent first, whatever it does), else 0; the ROW: the fewest seconds to speak now by which it can (0: it can't).");
         ClockForTalk c = new ClockForTalk();
         int[][] due = {{0, 0, 1, 0}, {1, 0, 1, 1}, {1, 1, 1, 0}, {2, 1, 1, 1}, {2, 1, 2, 1}, {2, 2, 2, 0}, {3, 2, 2, 1}, {0, 60, 9, 0}, {60, 0, 9, 1}};
         for (int[] d : due) {
@@ -38,6 +39,7 @@ public final class DebatesTest {
     }
 
     private static void byDefinition() {
+        Due.of("Promise 26", "each speaks as many seconds as the other one just did (1 at first) or more, k (1 .. 9) at most, no more than it has; who can't is silent");
         ClockForTalk c = new ClockForTalk();
         for (int k = 1; k <= 9; k++) {
             for (byte[][] rows : KNOWN) for (byte[] row : rows) java.util.Arrays.fill(row, (byte) 0);
@@ -56,6 +58,7 @@ public final class DebatesTest {
     }
 
     private static void wrong() {
+        Due.of("Promise 26", "NONE: others.");
         ClockForTalk c = new ClockForTalk();
         c.debate(3, 2, 2);
         Due.is("26: 61", c.debate(61, 0, 1), -1);
@@ -65,6 +68,7 @@ public final class DebatesTest {
         Due.is("26: k 0", c.debate(1, 1, 0), -1);
         Due.is("26: k 10", c.debate(1, 1, 10), -1);
         Due.row("26: the row stays", c, 1);
+        Due.of("Promise 27", "NONE: others.");
         Due.is("27: 61", c.enough(61, 1), -1);
         Due.is("27: -1", c.enough(-1, 1), -1);
         Due.is("27: k 0", c.enough(1, 0), -1);

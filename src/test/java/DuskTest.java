@@ -9,6 +9,7 @@ public final class DuskTest {
     }
 
     private static void readAndForget() {
+        Due.of("Promise 31", "how many were read (one of the same person takes the place of the elder). Refused: others.");
         ClockForTalk c = Due.town("0:40;0:10;5:7", "");
         Due.is("31: one", c.read(1, 9), 1);
         Due.is("31: bits", c.count(8), 2);
@@ -20,6 +21,7 @@ public final class DuskTest {
         Due.is("31: nobody, ahead", c.read(-1, 5), -1);
         Due.is("31: bits stay", c.count(8), 3);
         Due.is("31: the clock stays", c.person(1, 1), 10);
+        Due.of("Promise 32", "They are forgotten: how many there were.");
         Due.is("32: two", c.forget(), 2);
         Due.is("32: none then", c.forget(), 0);
         Due.is("32: bits", c.count(8), 0);
@@ -28,6 +30,7 @@ public final class DuskTest {
     }
 
     private static void spoke() {
+        Due.of("Promise 33", "Sets of THINGS of one that explain what was read (0: nothing was said): how many; the ROW: the least bits (NONE), THINGS that are in all of them (0 without). -2: its CLOCK was not read; NONE: none such.");
         // At one place: 5, 4, 10, 20 of the first; 3, 2, 6, 12 of the second.
         ClockForTalk c = Due.town("0:40;0:10;50:20", "ab10-9=5;ab6-9=8;ca7-9=1");
         c.read(0, 40);
@@ -70,6 +73,7 @@ public final class DuskTest {
     }
 
     private static void spokeNow() {
+        Due.of("Promise 31", "behind a day in which it said some of its THINGS that can be said now, each by some WAY that is heard (COST by the CLOCK as it is now), and nothing else");
         ClockForTalk c = Due.town("0:40;0:10", "ab9-9=5;ab9-9=8;ab9-3=1");
         c.read(0, 37);
         // Three seconds: each of the three, sung.
@@ -114,6 +118,7 @@ public final class DuskTest {
     }
 
     private static void byWords() {
+        Due.of("Promise 33", "Sets of THINGS of one that explain what was read (0: nothing was said): how many");
         // l seconds loud, nine steps apart; shouted is dearer than any clock: sums beside 64 and its multiples.
         ClockForTalk c = Due.town("0:500;9:10", "ab63-9=1;ab1-9=1;ab64-9=1;ab65-9=1;ab2-9=1");
         Due.rule(c, "l+(w=3)*900");
@@ -144,6 +149,7 @@ public final class DuskTest {
     }
 
     private static void look() {
+        Due.of("Promise 34", "The one of PEOPLE whose CLOCK was not read and could show the most different seconds (behind such a day; sets that its CLOCK can pay): of equal ones the first: it; the ROW: how many. -2: all were read, nobody is there.");
         ClockForTalk c = Due.town("0:40;0:10;0:12", "ab10-9=5;ba6-9=8;ca10-9=1");
         // a: 0, 4, 5, 10, 20; b: 0, 2, 3, 6 (12 is more than it has); c: 0, 4, 5, 10.
         Due.is("34: a", c.look(), 0);

@@ -10,6 +10,7 @@ public final class KeptTest {
     }
 
     private static void keepAndAgain() {
+        Due.of("Promise 38", "DAY, CLOCKS, SPENT, LOANS, LOSS, what was SAID are kept under a number 0 .. 1: true. Refused: others.");
         ClockForTalk c = Due.town("5:40;6:10;20:100", "ab10-9=5;ac20-5=8");
         Due.is("39: nothing kept", c.again(0), false);
         Due.is("38: 0", c.keep(0), true);
@@ -25,6 +26,7 @@ public final class KeptTest {
         Due.is("38: 1", c.keep(1), true);
         Due.is("38: it is no act that can be undone", c.count(9), 5);
         c.move(0, 50);
+        Due.of("Promise 39", "They are as they were kept under a number.");
         Due.is("39: 0", c.again(0), true);
         Due.is("39: DAY", c.count(2), 0);
         Due.is("39: LOANS", c.count(3), 0);
@@ -54,6 +56,7 @@ public final class KeptTest {
     }
 
     private static void forgotten() {
+        Due.of("Promise 39", "Refused: nothing kept, PEOPLE or THINGS came since.");
         ClockForTalk c = Due.town("5:40;6:10;20:100", "ab10-9=5;ac20-5=8");
         c.keep(0);
         c.keep(1);
@@ -76,6 +79,7 @@ public final class KeptTest {
     }
 
     private static void count() {
+        Due.of("Promise 40", "What 0: PEOPLE, 1: THINGS, 2: DAY, 3: LOANS, 4: THINGS that were SAID (bits), 5: those that can be said today (bits: not SAID, not too late), 6: CLOCKS in all, 7: LINES of THE GRAMMAR, 8: CLOCKS that were read (bits of PEOPLE), 9: what can be undone, 10: numbers of the ROW, 11: signs of THE TEXT. NONE for another what.");
         ClockForTalk c = Due.town("5:40;6:10;20:100", "ab10-9=5;ac20-5=8;ba9-6=4;cb30-50=9");
         c.lend(2, 0, 20, 1);
         c.say(1, 3);
@@ -97,6 +101,7 @@ public final class KeptTest {
     }
 
     private static void row() {
+        Due.of("Promise 41", "Number i of the ROW. NoSuchElementException: none such.");
         ClockForTalk c = Due.town("5:40;6:10;20:100", "ab10-9=5;ac20-5=8;ba9-6=4;cb30-50=9");
         Due.throwsNoSuch("41: nothing told", () -> c.row(0));
         c.pool();
@@ -107,6 +112,7 @@ public final class KeptTest {
         Due.throwsNoSuch("41: row(MAX)", () -> c.row(Integer.MAX_VALUE));
         c.gifts(0);
         Due.throwsNoSuch("41: one number alone is told now", () -> c.row(1));
+        Due.of("Terms 2", "ROW: numbers told last by a call that says so.");
         // Calls that tell no row leave it.
         c.pool();
         c.cost(0, 0);
@@ -127,6 +133,7 @@ public final class KeptTest {
         Due.people(c, "1:1");
         Due.things(c, "ab1-1=1");
         Due.row("41: it stays", c, 15, 107);
+        Due.of("Terms 2", "The ROW stays with NONE and with each number below 0 that tells why there is no answer (-2, -3 ..)");
         // Numbers below 0 that tell why leave it, too.
         c.best(-1);
         c.lacks(9);
@@ -146,6 +153,7 @@ public final class KeptTest {
     }
 
     private static void texts() {
+        Due.of("Terms 2", "change nothing but THE TEXT, which a call that can read it empties, whatever it answers.");
         // Each call that can read THE TEXT empties it, whatever it answers; others leave it.
         ClockForTalk c = Due.town("5:40;6:10;20:100", "ab10-9=5;ac20-5=8");
         Due.tell(c, "zzz");

@@ -10,6 +10,7 @@ public final class RatesTest {
     }
 
     private static void rate() {
+        Due.of("Promise 35", "THE TEXT is another RULE (an empty one: none): what best() of all PEOPLE comes to together by it less that by THE RULE: how much (below 0, too); the ROW: both.");
         ClockForTalk c = Due.town("5:40;6:10;20:100", "ab10-9=5;ac20-5=8;ba9-9=4;cb30-50=9");
         Due.is("35: l", Due.rate(c, "l"), 5);
         Due.row("35: l", c, 26, 21);
@@ -21,6 +22,7 @@ public final class RatesTest {
         Due.rule(c, "999");
         Due.is("35: an empty one is none, not THE RULE", c.rate(), 21);
         Due.row("35: an empty one is none", c, 21, 0);
+        Due.of("Promise 35", "-10000 - p: the sign at p can't stand there (as rule()).");
         String[] texts = {"x", "l+", "(l", "l)", "(((((l", "1234", Due.times("1+", 20) + "1", Due.times("1+", 20)};
         int[] due = {-10000, -10002, -10002, -10001, -10004, -10003, -10040, -10040};
         for (int i = 0; i < texts.length; i++) Due.is("35: " + texts[i], Due.rate(c, texts[i]), due[i]);
@@ -36,6 +38,7 @@ public final class RatesTest {
     }
 
     private static void run() {
+        Due.of("Promise 36", "who would not pay (bits; 0, if that one OWES nothing); the ROW: how many, what they OWE in all. NONE: none such.");
         ClockForTalk c = Due.town("0:100;0:0;0:0;0:0", "");
         c.lend(0, 1, 60, 90);
         c.lend(1, 2, 50, 90);
@@ -65,6 +68,7 @@ public final class RatesTest {
     }
 
     private static void runRound() {
+        Due.of("Promise 36", "and each who lent to one who does not pay, and whose CLOCK and what those who pay OWE to it are together less than what it OWES, paid nothing, too, and so on");
         // b owes a 30; c and d owe b 20 each. Two who don't pay strike b only together.
         ClockForTalk c = Due.town("0:100;0:100;0:0;0:0", "");
         c.lend(0, 1, 30, 90);
@@ -86,6 +90,7 @@ public final class RatesTest {
     }
 
     private static void years() {
+        Due.of("Promise 37", "n DAYS (1 .. 60) from now: in each, ahead of it, a DRAW of 10 tells a THING (by its number; none: nothing) that is said by the WAY of thing() 7, if it can be: how many were said; the ROW: what they cost, their WORTH. NONE: another n.");
         ClockForTalk c = Due.town("0:40;0:40", "ab10-99=5;ba10-99=7;ab7-0=1;ba3-99=2;ab8-99=9;ba2-99=3;ab5-99=4;ba5-1=6");
         int[] seeds = {0, 1, 7, -1, 123456789, Integer.MIN_VALUE, Integer.MAX_VALUE};
         for (int seed : seeds) {
@@ -129,6 +134,7 @@ public final class RatesTest {
     }
 
     private static void yearsAsTalk() {
+        Due.of("Promise 37", "A DRAW of n: R = R times 1103515245 + 12345 (as ints; R is seed at first), (R without sign, by 65536) % n.");
         // Over New Year the clocks are set again, what was said is to be said again, and loans are due.
         ClockForTalk c = Due.town("0:9;0:9", "ab10-99=5;ba10-99=7;ab7-99=1;ba3-99=2");
         c.lend(0, 1, 5, 95);

@@ -15,6 +15,7 @@ public final class TalkTest {
     }
 
     private static void cost() {
+        Due.of("Promise 12", "COST of a THING by a WAY, now (SAID or not). -2: it is not heard so; NONE: others.");
         ClockForTalk c = Due.town("0:40;3:10;4:10", "ab9-9=5;ac9-9=5");
         Due.is("12: whispered three apart", c.cost(0, 0), -2);
         Due.is("12: sung, 9 seconds", c.cost(0, 1), 3);
@@ -35,11 +36,13 @@ public final class TalkTest {
     }
 
     private static void say() {
+        Due.of("Promise 13", "A THING is said by a WAY: COST; the CLOCK is so much less.");
         ClockForTalk c = Due.town("0:40;3:10;4:10", "ab9-9=5;ac9-4=5;bc99-9=5;ab3-9=1");
         Due.is("13: loud", c.say(0, 2), 9);
         Due.is("13: the clock", c.person(0, 1), 31);
         Due.is("13: SPENT", c.person(0, 3), 9);
         Due.is("13: SAID", c.count(4), 1);
+        Due.of("Promise 13", "-2: it was SAID; -3: it is too late (BY); -4: it is not heard so; -5: the CLOCK has less; NONE: others (asked in this order, that first).");
         Due.is("13: no such way, SAID", c.say(0, 4), -1);
         Due.is("13: SAID is asked first", c.say(0, 0), -2);
         Due.is("13: not heard", c.say(1, 1), -4);
@@ -50,6 +53,7 @@ public final class TalkTest {
         Due.is("13: no such thing", c.say(4, 0), -1);
         Due.is("13: no such thing, ahead", c.say(-1, 0), -1);
         Due.is("13: way -1", c.say(3, -1), -1);
+        Due.of("Promise 13", "A THING is said by a WAY: COST; the CLOCK is so much less.");
         Due.rule(c, "31");
         Due.is("13: all that the clock has", c.say(3, 1), 31);
         Due.is("13: the clock is empty", c.person(0, 1), 0);
@@ -64,6 +68,7 @@ public final class TalkTest {
     }
 
     private static void give() {
+        Due.of("Promise 14", "One gives n (1 .. 9999) seconds to another one: the CLOCK of that one then (9999 at most; what is more is gone).");
         ClockForTalk c = Due.town("0:40;3:10", "");
         Due.is("14: five", c.give(0, 1, 5), 15);
         Due.is("14: who gave", c.person(0, 1), 35);
@@ -74,6 +79,7 @@ public final class TalkTest {
         Due.is("14: 9999 at most", c.give(0, 1, 100), 9999);
         Due.is("14: what is more is gone", c.person(0, 1), 9899);
         Due.is("14: 9999", c.give(1, 0, 9999), 9999);
+        Due.of("Promise 14", "NONE: others, like ones.");
         Due.is("14: 10000", c.give(0, 1, 10000), -1);
         Due.is("14: 0", c.give(0, 1, 0), -1);
         Due.is("14: -1", c.give(0, 1, -1), -1);
@@ -84,10 +90,12 @@ public final class TalkTest {
     }
 
     private static void lend() {
+        Due.of("Promise 15", "One lends n (1 .. 999) seconds to another one till a day behind DAY (9999 at most): the LOAN's number; the CLOCKS go as by give().");
         ClockForTalk c = Due.town("0:400;3:10;5:0", "");
         Due.is("15: the first", c.lend(0, 1, 50, 1), 0);
         Due.is("15: the clock of who lends", c.person(0, 1), 350);
         Due.is("15: the clock of who owes", c.person(1, 1), 60);
+        Due.of("Promise 15", "-2: it has less; -3: 6 LOANS were made; -4: another day; NONE: others, like ones (asked: NONE, -3, -4, -2).");
         Due.is("15: today", c.lend(0, 1, 50, 0), -4);
         Due.is("15: a day ahead", c.lend(0, 1, 50, -1), -4);
         Due.is("15: 10000", c.lend(0, 1, 50, 10000), -4);
@@ -118,15 +126,18 @@ public final class TalkTest {
     }
 
     private static void days() {
+        Due.of("Promise 16", "n DAYS (0 .. 99) go by: DAY; the ROW: how many LOANS ended in these, what was lost in these.");
         ClockForTalk c = Due.town("0:100;3:10;5:20", "");
         Due.is("16: none", c.days(0), 0);
         Due.row("16: none", c, 0, 0);
         Due.is("16: 99", c.days(99), 99);
+        Due.of("Promise 16", "NONE: another n.");
         Due.is("16: 100", c.days(100), -1);
         Due.is("16: -1", c.days(-1), -1);
         Due.row("16: the row stays", c, 0, 0);
         Due.is("16: count(2)", c.count(2), 99);
 
+        Due.of("Terms 1", "(3) Of each LOAN (by numbers) whose DUE is DAY: as much of OWED as the CLOCK of who owes has goes to the CLOCK of who lent (9999 at most there); the LOAN has ended; LOSS of who lent is more by what was not paid.");
         ClockForTalk l = Due.town("0:100;3:10;5:20", "");
         l.lend(0, 1, 50, 30);
         l.lend(2, 1, 20, 31);
@@ -168,6 +179,7 @@ public final class TalkTest {
         Due.is("16: all of it was paid", m.person(1, 1), 9850);
         Due.row("16: nothing was lost", m, 1, 0);
 
+        Due.of("Terms 1", "(2) If it is a multiple of 30, of each LOAN that has not ended, OWED is a tenth (cut) more.");
         ClockForTalk t = Due.town("0:999;3:999", "");
         t.lend(0, 1, 999, 95);
         t.days(94);
@@ -176,6 +188,7 @@ public final class TalkTest {
     }
 
     private static void newYear() {
+        Due.of("Terms 1", "(4) If DAY is a multiple of 100 (New Year): each CLOCK is YEARLY; all THINGS that were SAID are to be said again.");
         ClockForTalk c = Due.town("0:100;3:10", "ab9-99=5;ba3-2=1");
         c.say(0, 2);
         c.lend(0, 1, 50, 100);
@@ -194,6 +207,7 @@ public final class TalkTest {
         Due.is("16: LOSS stays", c.person(0, 6), 59);
         Due.is("16: a loan that has not ended stays", c.loan(1, 4), 0);
         Due.is("16: BY is asked by DAY by 100", c.count(5), 3);
+        Due.of("Terms 2", "BY is asked by DAY by 100 (rest): a THING can be said, if that is BY or less.");
         ClockForTalk b = Due.town("0:100;3:10", "ab9-98=5;ba3-99=1;ba3-0=1");
         b.days(99);
         Due.is("13: DAY 99 is behind BY 98", b.say(0, 2), -3);
@@ -207,6 +221,7 @@ public final class TalkTest {
     }
 
     private static void talk() {
+        Due.of("Promise 17", "they are done one by one, till one can't be (it answers below 0; a THING that is not there): how many were done; the ROW: 1 if one could not be, else 0; what all that was said cost.");
         ClockForTalk c = Due.town("5:40;6:10;20:100", "ab10-9=5;ac20-5=8;ba9-9=4;cb30-50=9");
         Due.is("17: an empty one", c.talk(), 0);
         Due.row("17: an empty one", c, 0, 0);
@@ -245,6 +260,7 @@ public final class TalkTest {
     }
 
     private static void talkWrong() {
+        Due.of("Promise 17", "-1 - p: the sign at p can't stand there (as people(); 60 signs); nothing is done then.");
         ClockForTalk c = Due.town("5:40;6:10;20:100", "ab10-9=5;ac20-5=8;ba9-9=4;cb30-50=9");
         c.pool();
         String[] texts = {"x", "s", "s0", "s04", "sa0", "b", "bx", "b00", "g", "ga", "gab", "gah1", "gg1", "gabx", "gab1234", "d", "dx", "d123",
@@ -267,6 +283,7 @@ public final class TalkTest {
     }
 
     private static void undo() {
+        Due.of("Promise 18", "The latest say(), give(), lend(), days(), talk() (of 12 that are kept, the latest ones; such as were done; days() of 1 and more, talk() of which one ACT was done, as one) is undone (DAY, CLOCKS, SPENT, LOANS, LOSS, what was SAID are as ahead of it): how many are left that can be.");
         ClockForTalk c = Due.town("5:40;6:10;20:100", "ab10-9=5;ac20-5=8");
         Due.is("18: nothing yet", c.undo(), -1);
         c.say(0, 1);
@@ -314,6 +331,7 @@ public final class TalkTest {
     }
 
     private static void undoOrder() {
+        Due.of("Promise 18", "(of 12 that are kept, the latest ones; such as were done; days() of 1 and more, talk() of which one ACT was done, as one)");
         ClockForTalk c = Due.town("5:40;6:10", "ab10-9=5");
         for (int i = 1; i <= 15; i++) c.give(0, 1, 1);
         Due.is("18: 12 are kept", c.count(9), 12);
@@ -325,6 +343,7 @@ public final class TalkTest {
         Due.is("18: the elder ones are not kept", c.person(0, 1), 37);
         Due.is("18: none", c.undo(), -1);
         c.give(0, 1, 1);
+        Due.of("Promise 18", "(people(), things() and again() forget them, if they are not refused; empty ones do not.)");
         Due.is("18: an empty people()", c.people(), 0);
         Due.is("18: forgets nothing", c.count(9), 1);
         Due.is("18: an empty things()", c.things(), 0);

@@ -10,6 +10,7 @@ public final class WhatToSayTest {
     }
 
     private static void best() {
+        Due.of("Promise 19", "The most WORTH of THINGS of one that can still be said today, with its CLOCK: how much; the ROW: they (bits: of as much WORTH those that cost the least together, then the least bits), what they cost. NONE: none such.");
         // Least costs (three apart, sung): 4, 7, 3 of a, and 34 (shouted, c is far) of a.
         ClockForTalk c = Due.town("0:11;3:40;50:0", "ab10-9=5;ab20-5=8;ab9-9=4;ac17-50=9;ba9-9=1");
         Due.is("19: 4 and 7 are 11", c.best(0), 13);
@@ -54,6 +55,7 @@ public final class WhatToSayTest {
     }
 
     private static void lacks() {
+        Due.of("Promise 20", "The least that one needs more in its CLOCK to say all its THINGS that can be said today: how much (0: nothing); the ROW: what they cost, how many they are. NONE: none such.");
         ClockForTalk c = Due.town("0:11;3:40;50:0", "ab10-9=5;ab20-5=8;ab9-9=4;ac17-50=9;ba9-9=1");
         Due.is("20: 48 less 11", c.lacks(0), 37);
         Due.row("20: 48 for four", c, 48, 4);
@@ -73,6 +75,7 @@ public final class WhatToSayTest {
     }
 
     private static void pool() {
+        Due.of("Promise 21", "All PEOPLE together, if clocks were one: the most WORTH of THINGS that can be said today with all CLOCKS added (COSTS as each one's CLOCK is now): how much; the ROW: they (bits: as best()), what they cost.");
         ClockForTalk c = Due.town("0:1;0:1;0:5", "ab9-9=5;ba9-9=6;ca9-9=4");
         // Three seconds each, seven in all.
         Due.is("21: two of them", c.pool(), 11);
@@ -100,6 +103,7 @@ public final class WhatToSayTest {
     }
 
     private static void gifts() {
+        Due.of("Promise 22", "The fewest seconds that are to be given among PEOPLE so that each THING of a set (bits; all can be said today) can be said: how many (what those lack who have too little); the ROW: how many lack something. -2: all CLOCKS together are not enough, or one can't be said today; NONE: bits of none such.");
         ClockForTalk c = Due.town("0:1;0:1;0:5", "ab9-9=5;ba9-9=6;ca9-9=4;ab30-5=1");
         Due.is("22: none", c.gifts(0), 0);
         Due.row("22: none", c, 0);
@@ -133,6 +137,7 @@ public final class WhatToSayTest {
     }
 
     private static void mute() {
+        Due.of("Promise 23", "The first THING (least BY, then number) that can be said today and whose least COST is more than the CLOCK of who says it: it; the ROW: COST, the CLOCK. -2: none.");
         ClockForTalk c = Due.town("0:1;0:5;0:2", "ab9-9=5;ba18-9=6;ca9-7=4;ca9-9=1");
         Due.is("23: the least BY", c.mute(), 2);
         Due.row("23: 3 of 2", c, 3, 2);

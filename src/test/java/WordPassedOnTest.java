@@ -9,6 +9,7 @@ public final class WordPassedOnTest {
     }
 
     private static void relay() {
+        Due.of("Promise 24", "The least COST in all by which a word comes from one to another one, or the same, each who speaks paying by its own CLOCK, nobody twice: how much; the ROW: those it goes by in turn, both too: of as cheap ones the least row. -2: it can't be; NONE: others.");
         // 0, 3, 6, 9: each three from the next, so sung a third, nine loud, else shouted.
         ClockForTalk c = Due.town("0:40;3:40;6:40;9:40;30:9", "");
         Due.is("24: sung to the next", c.relay(0, 1, 9), 3);
@@ -36,6 +37,7 @@ public final class WordPassedOnTest {
     }
 
     private static void relayRows() {
+        Due.of("Promise 24", "the ROW: those it goes by in turn, both too: of as cheap ones the least row.");
         ClockForTalk c = Due.town("0:40;3:40;6:1;9:40;6:40", "");
         // c can't pay its own part, so e passes it on.
         Due.is("24: round one who can't pay", c.relay(0, 3, 9), 9);
@@ -58,6 +60,7 @@ public final class WordPassedOnTest {
     }
 
     private static void criers() {
+        Due.of("Promise 25", "The fewest who must speak so that all PEOPLE told as bits know a word that one knows at first, each who speaks (knowing it) once, by one WAY that its CLOCK can pay (s is 0 for THE RULE); who lives where it is heard knows it then: how many (0: nobody needs to); the ROW: they (bits: of as few the least). -2: it can't be; NONE: others.");
         // a reaches b, and c and d sung from b; e is far.
         ClockForTalk c = Due.town("0:10;3:10;6:10;9:10;40:10", "");
         Due.is("25: nobody needs to", c.criers(0, 1, 9), 0);
@@ -95,6 +98,7 @@ public final class WordPassedOnTest {
     }
 
     private static void criersRule() {
+        Due.of("Promise 25", "by one WAY that its CLOCK can pay (s is 0 for THE RULE); who lives where it is heard knows it then");
         // a, b and c at one place, d far: any of the two may shout, the least bits are told.
         ClockForTalk c = Due.town("0:0;0:50;0:50;50:0", "");
         Due.rule(c, "(w=3)*50");

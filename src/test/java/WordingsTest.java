@@ -11,6 +11,7 @@ public final class WordingsTest {
     }
 
     private static void grammar() {
+        Due.of("Promise 28", "THE TEXT is THE GRAMMAR (an empty one: none; at most 10 LINES with ; between): each two letters a .. g, >, a letter a .. g: what two words may become: how many LINES.");
         ClockForTalk c = new ClockForTalk();
         Due.is("28: two", Due.grammar(c, "ab>c;cc>d"), 2);
         Due.is("28: count", c.count(7), 2);
@@ -30,6 +31,7 @@ public final class WordingsTest {
     }
 
     private static void grammarWrong() {
+        Due.of("Promise 28", "-1 - p: the sign at p can't stand there (its end, if it ends too early; the first sign of an eleventh LINE).");
         ClockForTalk c = new ClockForTalk();
         Due.grammar(c, "ab>c");
         String[] texts = {"x", "h", "a", "ah", "ab", "ab<", "ab>", "ab>h", "ab>c;", "ab>cc", "ab>c;;", ";", "ab>c;aa", "Ab>c"};
@@ -41,6 +43,7 @@ public final class WordingsTest {
     }
 
     private static void shorter() {
+        Due.of("Promise 29", "THE TEXT is a wording (1 to 14 letters a .. g, a second each): the fewest letters that it can become: how many; the ROW: the letters then (0: a, ..)");
         ClockForTalk c = new ClockForTalk();
         Due.is("29: without a grammar", Due.shorter(c, "gfa"), 3);
         Due.row("29: as it is", c, 6, 5, 0);
@@ -64,6 +67,7 @@ public final class WordingsTest {
     }
 
     private static void shorterRows() {
+        Due.of("Promise 29", "of as few the least row.");
         ClockForTalk c = new ClockForTalk();
         Due.grammar(c, "aa>c;aa>b");
         Due.is("29: b is less than c", Due.shorter(c, "aa"), 1);
@@ -91,6 +95,7 @@ public final class WordingsTest {
     }
 
     private static void becomes() {
+        Due.of("Promise 30", "THE TEXT is a wording: letters (bits) that all of it can become, alone.");
         ClockForTalk c = new ClockForTalk();
         Due.grammar(c, "ab>c;ab>a;ba>g;cb>f;aa>b");
         c.pool();
@@ -106,6 +111,7 @@ public final class WordingsTest {
     }
 
     private static void wordingsWrong() {
+        Due.of("Promise 29", "-1 - p: the sign at p can't stand there (its end for none; a fifteenth sign: at it).");
         ClockForTalk c = new ClockForTalk();
         c.pool();
         String[] texts = {"", "h", "abx", "A", Due.times("a", 15), Due.times("a", 14) + "x", Due.times("a", 80), Due.times("a", 13) + "xa", "a;b"};
