@@ -958,9 +958,12 @@ public final class ClockForTalk {
             return true;
         }
 
+        // 0 is told at its last digit; but where it is the last sign of those that count and more follow, another digit
+        // could come, so the text is too long there, whatever follows.
         boolean readSeconds(Text text, int slot) {
+            boolean couldGoOn = text.place == TOWN_LIMIT - 1 && text.length > TOWN_LIMIT;
             int length = text.takeNumber(2);
-            if (length == 0) {
+            if (length == 0 && !couldGoOn) {
                 text.place--;
             }
             put(seconds, slot, length);

@@ -242,6 +242,17 @@ final class EdgesOfTown {
         Due.is("77, the last can't stand", Due.things(t, long76 + "x"), -77);
         Due.is("80, of which 76 could end", Due.things(t, long76 + ";ab1"), -77);
         Due.is("80, of which 76 could go on", Due.things(t, "ab1-1=1;" + Due.times("ab10-10=10;", 6) + "ab1-1="), -77);
+        // The 76th sign is the first digit of SECONDS: what stands behind it does not count, so it could go on by another.
+        String upTo75 = Due.times("ab10-10=10;", 3) + Due.times("ab1-10=10;", 4) + "ab";
+        Due.is("77, of which 76 end with 0 of SECONDS", Due.things(t, upTo75 + "0-"), -77);
+        Due.is("80, of which 76 end with 0 of SECONDS, BY behind", Due.things(t, upTo75 + "0-1=1"), -77);
+        Due.is("80, of which 76 end with 0 of SECONDS, a 0 behind", Due.things(t, upTo75 + "00-1="), -77);
+        Due.is("80, of which 76 end with 0 of SECONDS, a 5 behind", Due.things(t, upTo75 + "05-1="), -77);
+        Due.is("77, of which 76 end with 0 of SECONDS, a wrong sign behind", Due.things(t, upTo75 + "0x"), -77);
+        Due.is("76 that end with 0 of SECONDS", Due.things(t, upTo75 + "0"), -76);
+        String upTo74 = Due.times("ab10-10=10;", 2) + Due.times("ab1-10=10;", 5) + "ab";
+        Due.is("77, of which 76 end with 00 of SECONDS", Due.things(t, upTo74 + "00-"), -76);
+        Due.is("77, the 75th is SECONDS of 0", Due.things(t, upTo74 + "0-1"), -75);
         Due.is("80, the 76th can't stand", Due.things(t, long76.substring(0, 75) + "x;abc"), -76);
         Due.is("80, the 75th can't stand", Due.things(t, long76.substring(0, 74) + "x1;abc"), -75);
         Due.is("nothing came", t.count(1), 0);

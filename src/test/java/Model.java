@@ -169,9 +169,11 @@ final class Model {
         int f = faultOfLines(t, line, room, 76);
         if (f == 0) return 0;
         int p = -1 - f;
-        // SECONDS of 0 are told at the last digit, though another digit could come.
+        // SECONDS of 0 are told at the last digit, though another digit could come; but of more than 76 signs the first
+        // 76 could go on by it.
         boolean both = p < t.length() && t.charAt(p) == '0';
-        if (!both && p < 76 && p > 2 && t.charAt(p - 1) == '0' && Character.isLetter(t.charAt(p - 2))) return f + 1;
+        boolean tooLong = p == 76 && t.length() > 76;
+        if (!both && !tooLong && p > 2 && t.charAt(p - 1) == '0' && Character.isLetter(t.charAt(p - 2))) return f + 1;
         return f;
     }
 

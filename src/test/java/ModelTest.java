@@ -225,20 +225,37 @@ public final class ModelTest {
         return upTo(5) == 0 ? Math.max(0, clock - upTo(50)) : seen.get(upTo(seen.size()));
     }
 
+    private interface Told { int of(int i, int what); }
+
+    /** All that is told of each there is, and at the edges of that: none such, another what. */
+    private static void compareEach(String call, int many, int whats, Told mine, Told theirs) {
+        for (int i = 0; i < many; i++) {
+            for (int j = 0; j < whats; j++) compareOne(call, i, j, mine, theirs);
+        }
+        for (int i = -1; i <= many; i++) {
+            compareOne(call, i, -1, mine, theirs);
+            compareOne(call, i, whats, mine, theirs);
+        }
+        compareOne(call, -1, 0, mine, theirs);
+        compareOne(call, many, 0, mine, theirs);
+    }
+
+    private static void compareOne(String call, int i, int what, Told mine, Told theirs) {
+        same(call + "(" + i + ", " + what + ")", () -> mine.of(i, what), () -> theirs.of(i, what));
+    }
+
     private static void compareAll() {
         for (int i = -1; i <= 12; i++) {
+            int what = i;
+            same("count(" + what + ")", () -> clock.count(what), () -> model.count(what));
+        }
+        for (int i = -1; i <= model.row.size(); i++) {
             int n = i;
-            same("count(" + n + ")", () -> clock.count(n), () -> model.count(n));
             same("row(" + n + ")", () -> clock.row(n), () -> model.row(n));
         }
-        for (int i = -1; i <= 8; i++) {
-            for (int j = -1; j <= 8; j++) {
-                int n = i, what = j;
-                same("person(" + n + ", " + what + ")", () -> clock.person(n, what), () -> model.person(n, what));
-                same("thing(" + n + ", " + what + ")", () -> clock.thing(n, what), () -> model.thing(n, what));
-                same("loan(" + n + ", " + what + ")", () -> clock.loan(n, what), () -> model.loan(n, what));
-            }
-        }
+        compareEach("person", model.steps.size(), 7, clock::person, model::person);
+        compareEach("thing", model.things.size(), 8, clock::thing, model::thing);
+        compareEach("loan", model.now.loans.size(), 5, clock::loan, model::loan);
     }
 
     public static void main(String[] args) {
